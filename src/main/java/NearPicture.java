@@ -633,7 +633,6 @@ public final class NearPicture {
             width = picture.width;
             memory.begin(measures.range);
             Arrays.fill(here, 0);
-            Arrays.fill(above, 0);
             for (int y = 0; y < picture.height; y++) {
                 rowStart = picture.index(plane, 0, y);
                 openRow();
@@ -942,10 +941,8 @@ public final class NearPicture {
             return mark;
         }
 
+        /** May go beyond the end: the MARK that must follow is then missed. */
         void skip(int count) {
-            if (count > bytes.count - next) {
-                refuse(FAULT_EARLY_END, bytes.count);
-            }
             next += count;
         }
 

@@ -18,8 +18,10 @@ public final class FaultTest {
         otherContent();
         measures();
         numbers();
+        numbersOfFewBits();
         runs();
         marksInData();
+        bytesCutOff();
         moreBytes();
         CHECK.finish();
     }
@@ -205,6 +207,16 @@ public final class FaultTest {
         due(7, 25, eight, Rows.scan(1, 0, 0b11111010, 0, 0, 0), Rows.END);
     }
 
+    /** LONGEST is 20 for MOST up to 3: of MOST 3 (Q 2) up to 16 bits 0 are right here, of MOST 1 (Q 1), with J 1, too. */
+    private static void numbersOfFewBits() {
+        int[] one = Rows.join(Rows.BEGIN, Rows.frame(2, 1, 1, 1));
+        due(0, NearPicture.NONE, one, Rows.scan(1, 0, 0, 0, 0b01000000), Rows.END);
+        due(7, 25, one, Rows.scan(1, 0, 0, 0, 0b00100000), Rows.END);
+        int[] ten = Rows.join(Rows.BEGIN, Rows.frame(2, 10, 1, 1), Rows.measures(1, 0, 0, 0, 0));
+        due(1, 43, ten, Rows.scan(1, 0, 0b11111100, 0, 0));
+        due(7, 41, ten, Rows.scan(1, 0, 0b11111100, 0, 0, 0));
+    }
+
     private static void runs() {
         // Four run bits, then J is 1: a bit 0 with 1 sample where 1 or 2 are left.
         int[] five = Rows.join(Rows.BEGIN, Rows.frame(8, 5, 1, 1));
@@ -233,6 +245,24 @@ public final class FaultTest {
         due(1, 26, HEAD, Rows.scan(1, 0, 0));
         due(1, 27, HEAD, Rows.scan(1, 0, 0, 255));
         due(1, 25, HEAD, Rows.scan(1, 0));
+    }
+
+    /** What stood behind the end of the TAPE before it was cut is never looked at. */
+    private static void bytesCutOff() {
+        NearPicture x = new NearPicture();
+        Rows.type(x, Rows.join(HEAD, Rows.scan(1, 0, 255), Rows.END));
+        CHECK.same("a MARK", x.unpack(), 7);
+        CHECK.same("in the DATA", x.place(), 25);
+        x.end(26);
+        CHECK.same("cut behind its 255", x.unpack(), 1);
+        CHECK.same("at the end", x.place(), 26);
+        Rows.type(x, Rows.join(Rows.BEGIN, Rows.row(255, 254, 0, 20), GOOD));
+        for (int n = 3; n <= 24; n++) {
+            Rows.type(x, Rows.join(Rows.BEGIN, Rows.row(255, 254, 0, 20), GOOD));
+            x.end(n);
+            CHECK.same("cut in a section", x.unpack(), 1);
+            CHECK.same("there", x.place(), n);
+        }
     }
 
     private static void moreBytes() {

@@ -9,6 +9,7 @@ public final class LearnedTest {
         firstValues();
         aStop();
         halving();
+        correctionLimits();
         lastPlane();
         failedUnpack();
         CHECK.finish();
@@ -91,18 +92,42 @@ public final class LearnedTest {
         same("a plain sample", x, 27 - 3, 4 + 3, 0, 1, 2);
     }
 
+    /** In a row of one sample a RUN begins where the two above are the same. */
     private static void halving() {
         NearPicture x = new NearPicture();
-        x.canvas(1, 5, 1, 8);
-        Rows.paint(x, 0, 1, 0, 0, 0, 0, 7);
+        x.canvas(1, 4, 1, 8);
         x.measures(0, 0, 0, 0, 3);
+        Rows.paint(x, 0, 1, 10, 10, 20, 20);
         x.pack(0);
-        same("one stop", x, 366, 4 + 6, 0, 0, 2);
-        x.canvas(7, 2, 1, 8);
-        Rows.paint(x, 0, 7, 0, 9, 9, 9, 9, 9, 9, 9, 9, 9, 9, 9, 9, 9);
+        same("two stops, each with the number 19", x, 366, 4 + 9 + 9, 0, 0, 3);
+        same("two samples guessed right", x, 27 - 3, 4, 0, 0, 3);
+        x.canvas(1, 6, 1, 8);
+        x.measures(0, 0, 0, 0, 3);
+        Rows.paint(x, 0, 1, 10, 10, 20, 20, 15, 12);
         x.pack(0);
-        int n = x.learned(366, 3);
-        CHECK.holds("stops are counted", n > 1);
+        same("a third one with the number 8", x, 366, (4 + 9 + 9 + 4) / 2, 0, 0, 2);
+        same("a sample 3 below its guess, turned", x, 18 - 2, 4 + 3, 0, 1, 2);
+        x.canvas(1, 7, 1, 8);
+        x.measures(0, 0, 0, 0, 3);
+        Rows.paint(x, 0, 1, 10, 10, 20, 20, 30, 30, 30);
+        x.pack(0);
+        same("three samples guessed right", x, 27 - 3, 2, 0, 0, 2);
+    }
+
+    /** One picture errs upwards at one place all the time, the other downwards: C follows as far as it may. */
+    private static void correctionLimits() {
+        NearPicture x = new NearPicture();
+        x.canvas(64, 64, 1, 16);
+        x.draw(0, 0, 0, 64, 64, 0, 65535, 0);
+        CHECK.same("rising both ways", x.pack(0), 5659);
+        same("C is 127", x, 356, 12320, 0, 127, 33);
+        x.canvas(64, 64, 1, 16);
+        for (int y = 0; y < 64; y++) {
+            x.draw(0, 0, y, 64, 1, y % 2 == 0 ? 30000 : 0, y % 2 == 0 ? 0 : 30000, 0);
+        }
+        CHECK.same("rising and falling by turns", x.pack(0), 5956);
+        same("C is -128", x, 356, 21011, -63, -128, 64);
+        same("C is -128 here, too", x, 364, 27828, -35, -128, 36);
     }
 
     private static void lastPlane() {

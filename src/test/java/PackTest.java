@@ -13,6 +13,8 @@ public final class PackTest {
         planesAndDepth();
         measuresSection();
         endOfData();
+        longRuns();
+        edgesDownwards();
         plainMeasures();
         plainBehindTold();
         refusals();
@@ -81,13 +83,41 @@ public final class PackTest {
         sameOut("each plane begins a byte", x, x.pack(0), planes);
     }
 
+    /** Rows of the same samples take the PACE to 22, as far as 64 samples in a row can. */
+    private static void longRuns() {
+        NearPicture x = new NearPicture();
+        x.canvas(64, 7, 1, 8);
+        x.draw(0, 40, 5, 1, 1, 9, 9, 0);
+        x.draw(0, 20, 6, 1, 1, 9, 9, 0);
+        int[] due = Rows.join(Rows.BEGIN, Rows.frame(8, 64, 7, 1),
+            Rows.scan(1, 0, 255, 127, 255, 74, 2, 134, 148, 36, 136), Rows.END);
+        sameOut("long runs", x, x.pack(0), due);
+    }
+
+    /** Every row is stopped where the one above was, by a sample that is guessed right, till k of the STOP is 0. */
+    private static void edgesDownwards() {
+        NearPicture x = new NearPicture();
+        x.canvas(6, 8, 1, 8);
+        x.draw(0, 3, 0, 3, 8, 100, 100, 0);
+        int[] due = Rows.join(Rows.BEGIN, Rows.frame(8, 6, 8, 1),
+            Rows.scan(1, 0, 224, 0, 0, 56, 210, 217, 219, 109, 231, 123, 192), Rows.END);
+        sameOut("edges downwards", x, x.pack(0), due);
+        CHECK.same("A of STOP 0", x.learned(365, 0), 4);
+        CHECK.same("N of STOP 0", x.learned(365, 3), 8);
+        x.turn();
+        CHECK.same("and back", x.unpack(), 0);
+        CHECK.same("left of the edge", x.sample(0, 2, 7), 0);
+        CHECK.same("right of the edge", x.sample(0, 3, 7), 100);
+    }
+
     /** Depth, MOST (0: the greatest), NEAR, and the T1, T2, T3 that are plain for them. */
     private static final int[][] PLAIN = {
         {8, 0, 0, 3, 7, 21}, {8, 0, 2, 9, 17, 35}, {8, 128, 0, 3, 7, 21}, {8, 127, 0, 2, 3, 10}, {8, 127, 5, 16, 28, 45},
         {12, 0, 0, 18, 67, 276}, {16, 0, 0, 18, 67, 276}, {10, 0, 3, 15, 34, 93}, {10, 640, 0, 5, 15, 55},
         {10, 639, 0, 4, 11, 38}, {4, 0, 0, 2, 3, 4}, {4, 0, 7, 8, 8, 8}, {4, 0, 2, 6, 10, 15}, {2, 0, 0, 2, 3, 3},
         {2, 0, 1, 3, 3, 3}, {2, 2, 0, 2, 2, 2}, {2, 1, 0, 1, 1, 1}, {8, 0, 127, 128, 128, 128}, {6, 0, 0, 2, 3, 5},
-        {7, 0, 10, 31, 53, 80}, {8, 0, 40, 123, 207, 207}, {8, 0, 30, 93, 157, 231}};
+        {7, 0, 10, 31, 53, 80}, {8, 0, 40, 123, 207, 207}, {8, 0, 30, 93, 157, 231}, {8, 85, 0, 2, 3, 10},
+        {8, 84, 0, 2, 3, 7}};
 
     private static void plainMeasures() {
         for (int[] p : PLAIN) {
@@ -184,6 +214,10 @@ public final class PackTest {
         refuseAndStay(x, "a sample above MOST", 0);
         x.measures(101, 0, 0, 0, 0);
         CHECK.holds("none above MOST", x.pack(0) > 0);
+        x.canvas(2, 2, 1, 8);
+        x.draw(0, 0, 0, 1, 1, 101, 101, 0);
+        x.measures(100, 0, 0, 0, 0);
+        refuseAndStay(x, "the first sample above MOST", 0);
         x.canvas(2, 2, 1, 8);
         x.measures(100, 0, 0, 0, 0);
         CHECK.holds("what an earlier canvas had does not count", x.pack(0) > 0);
