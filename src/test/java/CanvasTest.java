@@ -5,10 +5,14 @@ public final class CanvasTest {
     public static void main(String[] args) {
         newObject();
         canvasEdges();
+        canvasOfEachSize();
         canvasClears();
         drawSlopes();
         drawNoise();
         drawEdges();
+        drawOfEachDepth();
+        drawAtEachCorner();
+        noiseOfEachSample();
         drawRefuses();
         atRefuses();
         measuresRefuses();
@@ -53,6 +57,20 @@ public final class CanvasTest {
         CHECK.notAsSaid("depth 17", () -> x.canvas(1, 1, 1, 17));
         CHECK.same("refused canvas changes nothing", x.at(2, 63, 63), 65535);
         CHECK.notAsSaid("refused canvas keeps measures", () -> x.pack(0));
+    }
+
+    /** Each width, height, number of planes and depth that there is, and the last sample of it. */
+    private static void canvasOfEachSize() {
+        NearPicture x = new NearPicture();
+        for (int side = 1; side <= 64; side++) {
+            int last = side - 1;
+            x.canvas(side, 65 - side, side % 2 == 0 ? 1 : 3, 2 + side % 15);
+            int plane = side % 2 == 0 ? 0 : 2;
+            CHECK.same("last of width " + side, x.at(plane, last, 64 - side), 0);
+            CHECK.noSuch("behind width " + side, () -> x.at(plane, last + 1, 0));
+            CHECK.noSuch("below height " + (65 - side), () -> x.at(plane, 0, 64 - last));
+            CHECK.noSuch("a plane too many", () -> x.at(plane + 1, 0, 0));
+        }
     }
 
     private static void canvasClears() {
@@ -118,6 +136,63 @@ public final class CanvasTest {
         CHECK.same("whole canvas", x.at(0, 7, 7) + x.at(0, 0, 0), 510);
         x.draw(0, 7, 7, 1, 1, 1, 255, 0);
         CHECK.same("its last sample", x.at(0, 7, 7), 1);
+    }
+
+    /** Samples are 0 .. 2^DEPTH - 1, and so are v and w; what the mask adds beyond that is cut. */
+    private static void drawOfEachDepth() {
+        NearPicture x = new NearPicture();
+        for (int depth = 2; depth <= 16; depth++) {
+            int greatest = (1 << depth) - 1;
+            x.canvas(3, 3, 1, depth);
+            x.draw(0, 0, 0, 3, 3, greatest, greatest, 0);
+            CHECK.same("greatest of depth " + depth, x.at(0, 2, 2), greatest);
+            x.draw(0, 0, 0, 3, 3, greatest, greatest, 65535);
+            CHECK.same("no more with noise, depth " + depth, x.at(0, 2, 2), greatest);
+            x.draw(0, 0, 0, 3, 3, 0, 0, 0);
+            CHECK.same("least of depth " + depth, x.at(0, 2, 2), 0);
+            CHECK.notAsSaid("v above depth " + depth, () -> x.draw(0, 0, 0, 1, 1, greatest + 1, 0, 0));
+            CHECK.notAsSaid("w above depth " + depth, () -> x.draw(0, 0, 0, 1, 1, 0, greatest + 1, 0));
+            CHECK.notAsSaid("v below 0", () -> x.draw(0, 0, 0, 1, 1, -1, 0, 0));
+            CHECK.notAsSaid("w below 0", () -> x.draw(0, 0, 0, 1, 1, 0, -1, 0));
+            CHECK.notAsSaid("a mask of -1", () -> x.draw(0, 0, 0, 1, 1, 0, 0, -1));
+            CHECK.notAsSaid("a mask of 65536", () -> x.draw(0, 0, 0, 1, 1, 0, 0, 65536));
+            CHECK.same("refused draws leave it", x.at(0, 0, 0), 0);
+        }
+    }
+
+    /** A rectangle may end where the canvas does, not further; no sample beside it changes. */
+    private static void drawAtEachCorner() {
+        for (int i = 0; i < 4; i++) {
+            NearPicture x = new NearPicture();
+            x.canvas(6, 5, 3, 8);
+            int left = i % 2 == 0 ? 0 : 4;
+            int top = i < 2 ? 0 : 3;
+            x.draw(1, left, top, 2, 2, 50, 50, 0);
+            for (int j = 0; j < 3 * 30; j++) {
+                int column = j % 6;
+                int row = j / 6 % 5;
+                boolean within = j / 30 == 1 && column >= left && column < left + 2 && row >= top && row < top + 2;
+                CHECK.same("corner " + i + ", sample " + j, x.at(j / 30, column, row), within ? 50 : 0);
+            }
+            CHECK.noSuch("too wide, corner " + i, () -> x.draw(1, left, top, 7 - left, 1, 9, 9, 0));
+            CHECK.noSuch("too high, corner " + i, () -> x.draw(1, left, top, 1, 6 - top, 9, 9, 0));
+        }
+    }
+
+    /** noise(0) .. noise(4095): from 2 on what is multiplied by itself is beyond 32 bits. */
+    private static void noiseOfEachSample() {
+        NearPicture x = new NearPicture();
+        x.canvas(64, 64, 1, 16);
+        x.draw(0, 0, 0, 64, 64, 0, 0, 65535);
+        for (int n = 0; n < 4096; n++) {
+            long seed = n * 40503L + 12345;
+            CHECK.same("noise " + n, x.at(0, n % 64, n / 64), seed * seed >> 7 & 65535);
+        }
+        x.draw(0, 60, 60, 4, 4, 0, 0, 65535);
+        for (int n = 0; n < 16; n++) {
+            long seed = n * 40503L + 12345;
+            CHECK.same("noise of a small one " + n, x.at(0, 60 + n % 4, 60 + n / 4), seed * seed >> 7 & 65535);
+        }
     }
 
     private static void drawRefuses() {
