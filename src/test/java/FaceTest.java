@@ -80,6 +80,7 @@ public final class FaceTest {
         classes.add(NearPicture.class);
         for (Class<?> inside : classes) {
             CHECK.holds(inside.getName() + " is static", inside == NearPicture.class || Modifier.isStatic(inside.getModifiers()));
+            fields(inside);
             for (Method method : inside.getDeclaredMethods()) {
                 boolean isFace = inside == NearPicture.class && Modifier.isPublic(method.getModifiers());
                 CHECK.holds(inside.getName() + "." + method.getName() + " has a name of its own",
@@ -89,9 +90,49 @@ public final class FaceTest {
         }
     }
 
+    /** Some twenty fields beside the constants, which are final; a class has those of the one it extends, too. */
+    private static void fields(Class<?> inside) {
+        int own = 0;
+        for (Class<?> from = inside; from != Object.class; from = from.getSuperclass()) {
+            for (Field field : from.getDeclaredFields()) {
+                boolean isStatic = Modifier.isStatic(field.getModifiers());
+                own += isStatic ? 0 : 1;
+                CHECK.holds(field + " is final if it is static", !isStatic || Modifier.isFinal(field.getModifiers()));
+            }
+        }
+        CHECK.holds(inside.getName() + " has some twenty fields: " + own, own <= 20);
+    }
+
+    /** Methods stay short: some sixty lines from the one that opens a method to the one that closes it. */
+    private static void lengths(String[] lines) {
+        for (int i = 0; i < lines.length; i++) {
+            String indent = lines[i].startsWith("        ") ? "        " : "    ";
+            boolean opens = lines[i].matches("( {4}| {8})[A-Za-z].*\\) (throws .*)?\\{") || lines[i].matches(" {12}throws .*\\{");
+            if (!opens) {
+                continue;
+            }
+            int end = i;
+            while (end < lines.length && !lines[end].equals(indent + "}") && !lines[end].equals("    }")) {
+                end++;
+            }
+            CHECK.holds("short from " + lines[i], end - i <= 60);
+        }
+    }
+
+    /** Only the exceptions that rule 6 names are thrown and caught, without a text or cause. */
+    private static void exceptions(String[] lines) {
+        String allowed = "(IllegalStateException|IllegalArgumentException|IndexOutOfBoundsException)";
+        for (String line : lines) {
+            CHECK.holds("plain throw: " + line, !line.contains("throw ") || line.matches(" +throw new " + allowed + "\\(\\);"));
+            CHECK.holds("plain catch: " + line, !line.contains("catch ") || line.matches(" +\\} catch \\(" + allowed + " refused\\) \\{"));
+        }
+    }
+
     private static void text(String source) {
+        lengths(source.split("\n"));
+        exceptions(source.split("\n"));
         for (String never : List.of("->", "::", "package ", "finally", "synchronized", "assert", "static {", "instanceof",
-            "Exact(", "System.out", "Random", "getMessage", "null")) {
+            "Exact(", "System.out", "Random", "getMessage", "null", "@", "double ", "float ", "Thread", "\" +", "+ \"")) {
             CHECK.holds("no " + never, !source.contains(never));
         }
         for (String line : source.split("\n")) {
