@@ -1,16 +1,13 @@
-import java.lang.reflect.Field;
-
-/** Promises 9 to 12: feed, end, change, turn. */
+/** Promises 9 to 12: feed, end, change, turn; how much turn has room for is in LongRowTest. */
 public final class TapeTest {
     private static final Check CHECK = new Check("TapeTest");
 
-    public static void main(String[] args) throws ReflectiveOperationException {
+    public static void main(String[] args) {
         feedOrder();
         endCuts();
         changeFlips();
         turnCopies();
         fullTape();
-        tooMuchOut();
         CHECK.finish();
     }
 
@@ -112,25 +109,5 @@ public final class TapeTest {
         x.end(32748);
         CHECK.same("room for 20", x.feed(0, 0, 0, 0, 9), 32768);
         CHECK.same("and they are there", x.change(32767, 0), 9);
-    }
-
-    /** No picture is known that packs to so many bytes, so OUT is made longer from behind. */
-    private static void tooMuchOut() throws ReflectiveOperationException {
-        NearPicture x = new NearPicture();
-        Field field = NearPicture.class.getDeclaredField("packed");
-        field.setAccessible(true);
-        Object packed = field.get(x);
-        Field row = packed.getClass().getDeclaredField("row");
-        Field count = packed.getClass().getDeclaredField("count");
-        row.setAccessible(true);
-        count.setAccessible(true);
-        row.set(packed, new byte[65536]);
-        x.feed(3, 3, 3, 3, 3);
-        count.setInt(packed, 32769);
-        CHECK.notNow("more than the tape has room for", () -> x.turn());
-        CHECK.same("the tape stays", x.change(3, 0), 3);
-        count.setInt(packed, 32768);
-        CHECK.same("just as many", x.turn(), 32768);
-        CHECK.notNow("it is full", () -> x.feed(0, 0, 0, 0, 0));
     }
 }
