@@ -11,6 +11,7 @@ public final class PackTest {
     public static void main(String[] args) {
         trialPicture();
         planesAndDepth();
+        planesBeginAnew();
         measuresSection();
         endOfData();
         longRuns();
@@ -50,6 +51,28 @@ public final class PackTest {
         int[] due = Rows.join(Rows.BEGIN, Rows.frame(12, 3, 1, 1, 2, 3),
             Rows.scan(1, 5, 0xE0), Rows.scan(2, 5, 0xE0), Rows.scan(3, 5, 0xE0), Rows.END);
         sameOut("three planes", x, x.pack(5), due);
+    }
+
+    /** Three planes with the same samples have the same DATA, which are those of one plane alone. */
+    private static void planesBeginAnew() {
+        for (int near : new int[] {0, 4}) {
+            int[] one = Rows.out(drawnOn(1, near));
+            int[] data = Arrays.copyOfRange(one, 25, one.length - 2);
+            int[] due = Rows.join(Rows.BEGIN, Rows.frame(8, 20, 20, 1, 2, 3),
+                Rows.scan(1, near, data), Rows.scan(2, near, data), Rows.scan(3, near, data), Rows.END);
+            sameRow("three planes alike, NEAR " + near, Rows.out(drawnOn(3, near)), due);
+        }
+    }
+
+    private static NearPicture drawnOn(int planes, int near) {
+        NearPicture x = new NearPicture();
+        x.canvas(20, 20, planes, 8);
+        for (int plane = 0; plane < planes; plane++) {
+            x.draw(plane, 0, 0, 20, 20, 10, 240, 15);
+            x.draw(plane, 2, 7, 16, 9, 80, 80, 0);
+        }
+        x.pack(near);
+        return x;
     }
 
     private static void measuresSection() {

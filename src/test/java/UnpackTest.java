@@ -1,3 +1,5 @@
+import java.util.Arrays;
+
 /** Promises 13 to 16: unpack, place, about, sample; the FAULTS are in FaultTest. */
 public final class UnpackTest {
     private static final Check CHECK = new Check("UnpackTest");
@@ -10,6 +12,8 @@ public final class UnpackTest {
         measuresHold();
         bitsBehindTheLast();
         freeErrors();
+        scansWithTheirOwnNear();
+        scansWithMeasuresThatHold();
         CHECK.finish();
     }
 
@@ -164,5 +168,66 @@ public final class UnpackTest {
         CHECK.same("comes round and is beyond", stopOf(x), 6);
         Rows.type(x, Rows.join(head, Rows.scan(1, 2, 0b01100000), Rows.END));
         CHECK.same("goes up", stopOf(x), 5);
+    }
+
+    /** A picture of one plane that meets many PLACES and some RUNS, packed and unpacked. */
+    private static NearPicture alone(int near, int... five) {
+        NearPicture x = new NearPicture();
+        x.canvas(24, 16, 1, 8);
+        x.draw(0, 0, 0, 24, 16, 190, 20, 7);
+        x.draw(0, 3, 2, 15, 9, 60, 60, 0);
+        x.draw(0, 5, 4, 9, 10, 40, 100, 31);
+        x.measures(five[0], five[1], five[2], five[3], five[4]);
+        x.pack(near);
+        x.turn();
+        CHECK.same("unpack of a plane alone", x.unpack(), 0);
+        return x;
+    }
+
+    private static int[] dataOf(NearPicture alone) {
+        int[] out = Rows.out(alone);
+        int head = out[16] == 248 ? 40 : 25;
+        return Arrays.copyOfRange(out, head, out.length - 2);
+    }
+
+    /** One row with three scans, as each plane would be told alone; sections[i] is empty or stands before scan i. */
+    private static void threeScans(String what, int[] nears, int[][] sections, int[][] holding) {
+        int[] row = Rows.join(Rows.BEGIN, Rows.frame(8, 24, 16, 1, 2, 3));
+        NearPicture[] alone = new NearPicture[3];
+        for (int plane = 0; plane < 3; plane++) {
+            alone[plane] = alone(nears[plane], holding[plane]);
+            int[] section = sections[plane].length == 0 ? sections[plane] : Rows.measures(sections[plane]);
+            row = Rows.join(row, section, Rows.scan(plane + 1, nears[plane], dataOf(alone[plane])));
+        }
+        NearPicture x = new NearPicture();
+        Rows.type(x, Rows.join(row, Rows.END));
+        CHECK.same(what + ": unpack", x.unpack(), 0);
+        for (int i = 0; x.place() == NearPicture.NONE && i < 3 * 384; i++) {
+            int plane = i / 384;
+            CHECK.same(what + ": sample " + i, x.sample(plane, i % 24, i / 24 % 16), alone[plane].sample(0, i % 24, i / 24 % 16));
+        }
+        for (int i = 0; i < 4 * 367; i++) {
+            CHECK.same(what + ": learned " + i, x.learned(i / 4, i % 4), alone[2].learned(i / 4, i % 4));
+        }
+    }
+
+    /** T1, T2, T3 that are plain go by the NEAR of each scan, and nothing that was learned goes from plane to plane. */
+    private static void scansWithTheirOwnNear() {
+        int[] plain = {0, 0, 0, 0, 0};
+        for (int[] nears : new int[][] {{0, 0, 0}, {0, 3, 1}, {5, 0, 2}, {1, 1, 9}, {12, 4, 0}}) {
+            threeScans("NEAR " + Arrays.toString(nears), nears, new int[3][0], new int[][] {plain, plain, plain});
+        }
+    }
+
+    /** MEASURES hold for all scans behind them, until others are told; what is 0 in them is plain for each scan. */
+    private static void scansWithMeasuresThatHold() {
+        int[] none = {};
+        int[] plain = {0, 0, 0, 0, 0};
+        int[] second = {0, 0, 33, 0, 5};
+        int[] most = {220, 0, 0, 60, 0};
+        threeScans("told first", new int[] {0, 2, 4}, new int[][] {second, none, none}, new int[][] {second, second, second});
+        threeScans("told behind the first", new int[] {3, 0, 2}, new int[][] {none, second, none}, new int[][] {plain, second, second});
+        threeScans("told twice", new int[] {0, 1, 2}, new int[][] {second, most, none}, new int[][] {second, most, most});
+        threeScans("plain again", new int[] {2, 2, 0}, new int[][] {most, second, plain}, new int[][] {most, second, plain});
     }
 }
